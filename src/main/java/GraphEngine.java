@@ -885,10 +885,12 @@ public final class GraphEngine {
         private void countWalks(Graph g, int length) {
             Arrays.fill(numbers, 1L);
             long[] next = new long[nodes];
+            int[] tail = g.tail;
+            int[] head = g.head;
             for (int round = 0; round < length; round++) {
                 Arrays.fill(next, 0L);
-                for (int k = 0; k < g.goings; k++) {
-                    next[g.tail[k]] += numbers[g.head[k]];
+                for (int k = 0; k < tail.length && k < head.length; k++) {
+                    next[tail[k]] += numbers[head[k]];
                 }
                 System.arraycopy(next, 0, numbers, 0, nodes);
             }
