@@ -6,13 +6,15 @@ import java.util.Random;
 public final class BigOracleTest {
     private static final Random RANDOM = new Random(1511L);
 
+    private static GraphEngine shared = new GraphEngine();
+
     private int n;
     private boolean directed;
     private int[][] arcs;
     private int[] joined;
 
     public static void main(String[] args) {
-        int rounds = args.length > 0 ? Integer.parseInt(args[0]) : 150;
+        int rounds = args.length > 0 ? Integer.parseInt(args[0]) : 1000;
         for (int round = 0; round < rounds; round++) {
             new BigOracleTest().check(round);
         }
@@ -48,7 +50,8 @@ public final class BigOracleTest {
 
     private void check(int round) {
         make(round);
-        GraphEngine x = new GraphEngine();
+        if (round % 3 == 0) shared = new GraphEngine();
+        GraphEngine x = shared;
         int g = Make.graph(x, n, directed, arcs);
         String name = n + " " + directed + " " + Arrays.deepToString(arcs) + " ask ";
         int[] free = new int[n];
@@ -70,8 +73,9 @@ public final class BigOracleTest {
         Check.due(name + 13 + ends, x.ask(g, 13, s, t), cut(s, t, false)[1]);
         Check.due(name + 14 + ends, x.ask(g, 14, s, t), price(s, t));
         Check.due(name + 15 + ends, x.ask(g, 15, s, t), cut(s, t, true)[0]);
-        checkLeast(x, g, name, s);
         checkSame(x, g, name);
+        GraphEngine other = new GraphEngine();
+        checkLeast(other, Make.graph(other, n, directed, arcs), name, s);
     }
 
     private int all() {
