@@ -1525,6 +1525,7 @@ public final class GraphEngine {
         private final int[] classes;
         /** Neighbours after so many nodes have gone: a row of nodes for each depth. */
         private final int[] levels;
+        private final int[] melted;
         /** A bit for each set of nodes that could not go on. */
         private final int[] hopeless;
 
@@ -1532,6 +1533,7 @@ public final class GraphEngine {
             strangers = new int[MOST_NODES];
             classes = new int[MOST_NODES];
             levels = new int[(MOST_NODES + 1) * MOST_NODES];
+            melted = new int[MOST_NODES];
             hopeless = new int[(1 << MOST_NODES) / 32];
         }
 
@@ -1673,9 +1675,9 @@ public final class GraphEngine {
         }
 
         private int widthOf(Graph g, int piece, int atLeast) {
+            System.arraycopy(g.joined, 0, levels, 0, g.nodes);
             int low = Math.max(atLeast, lowWidth(g, piece));
             int last = leastOfGreatest(strangers, piece);
-            System.arraycopy(g.joined, 0, levels, 0, g.nodes);
             for (int k = low; k < MOST_NODES; k++) {
                 Arrays.fill(hopeless, 0);
                 if (canGo(piece, k, last, 0)) {
@@ -1685,52 +1687,56 @@ public final class GraphEngine {
             return MOST_NODES - 1;
         }
 
-        /** Melting joined nodes never makes a graph wider, nor is one wider than its least degree is. */
+        /** Melting joined nodes never makes a graph wider, and none is less wide than its least degree. */
         private int lowWidth(Graph g, int piece) {
-            System.arraycopy(g.joined, 0, levels, 0, g.nodes);
+            System.arraycopy(g.joined, 0, melted, 0, g.nodes);
             int left = piece;
             int low = 0;
-            for (int round = 0; round < g.nodes && left != 0; round++) {
-                int v = leastDegree(left, g.nodes);
-                low = Math.max(low, Integer.bitCount(levels[v]));
-                int u = leastShared(v, g.nodes);
+            for (int round = 0; round < MOST_NODES && Integer.bitCount(left) > low + 1; round++) {
+                int v = leastDegree(left);
+                low = Math.max(low, Integer.bitCount(melted[v]));
                 left &= ~(1 << v);
-                if (u >= 0) {
-                    meltInto(v, u, g.nodes);
-                }
+                meltInto(v, leastShared(v));
             }
             return low;
         }
 
-        private int leastDegree(int left, int n) {
-            int best = Shape.lowest(left);
-            for (int v = 0; v < n; v++) {
-                if ((left >> v & 1) != 0 && Integer.bitCount(levels[v]) < Integer.bitCount(levels[best])) {
-                    best = v;
+        private int leastDegree(int left) {
+            int best = 0;
+            int least = MOST_NODES;
+            for (int v = 0; v < MOST_NODES; v++) {
+                if ((left >> v & 1) != 0) {
+                    int degree = Integer.bitCount(melted[v]);
+                    best = degree < least ? v : best;
+                    least = Math.min(least, degree);
                 }
             }
             return best;
         }
 
-        private int leastShared(int v, int n) {
+        /** The neighbour of v that has the fewest neighbours in common with it; -1 if v has none. */
+        private int leastShared(int v) {
             int best = -1;
             int fewest = MOST_NODES;
-            for (int u = 0; u < n; u++) {
-                int shared = Integer.bitCount(levels[u] & levels[v]);
-                if ((levels[v] >> u & 1) != 0 && shared < fewest) {
-                    best = u;
-                    fewest = shared;
+            for (int u = 0; u < MOST_NODES; u++) {
+                if ((melted[v] >> u & 1) != 0) {
+                    int shared = Integer.bitCount(melted[u] & melted[v]);
+                    best = shared < fewest ? u : best;
+                    fewest = Math.min(fewest, shared);
                 }
             }
             return best;
         }
 
-        private void meltInto(int v, int u, int n) {
-            int around = levels[v] & ~(1 << u);
-            levels[u] = (levels[u] | around) & ~(1 << v);
-            for (int w = 0; w < n; w++) {
+        private void meltInto(int v, int u) {
+            if (u < 0) {
+                return;
+            }
+            int around = melted[v] & ~(1 << u);
+            melted[u] = (melted[u] | around) & ~(1 << v);
+            for (int w = 0; w < MOST_NODES; w++) {
                 if ((around >> w & 1) != 0) {
-                    levels[w] = (levels[w] | 1 << u) & ~(1 << v);
+                    melted[w] = (melted[w] | 1 << u) & ~(1 << v);
                 }
             }
         }
@@ -1743,20 +1749,25 @@ public final class GraphEngine {
             if (Integer.bitCount(left) <= k + 1) {
                 return true;
             }
-            if (depth >= MOST_NODES || (hopeless[left >>> 5 & 2047] >> (left & 31) & 1) != 0) {
+            if (depth >= MOST_NODES) {
                 return false;
             }
             int choice = choices(left, k, last, depth);
             for (int v = 0; v < MOST_NODES; v++) {
-                if ((choice >> v & 1) != 0) {
+                int rest = left & ~(1 << v);
+                if ((choice >> v & 1) != 0 && !isHopeless(rest)) {
                     takeOut(v, left, depth);
-                    if (canGo(left & ~(1 << v), k, last, depth + 1)) {
+                    if (canGo(rest, k, last, depth + 1)) {
                         return true;
                     }
                 }
             }
             hopeless[left >>> 5 & 2047] |= 1 << (left & 31);
             return false;
+        }
+
+        private boolean isHopeless(int left) {
+            return (hopeless[left >>> 5 & 2047] >> (left & 31) & 1) != 0;
         }
 
         /** The nodes to try: one alone, if that can do no harm; none, if there are too many joinings. */
