@@ -1,17 +1,26 @@
-/** Counts answers that are not as due; every test ends with end(). */
+/** Counts answers that are not as due; every test class ends with end(). */
 final class Check {
+    private static final int MOST_TOLD = 40;
+    private static int tests = 0;
     private static int looked = 0;
     private static int wrong = 0;
+    private static String test = "";
 
     private Check() {
+    }
+
+    /** From here on answers belong to the test with this name: a promise and what it says there. */
+    static void test(String name) {
+        tests++;
+        test = name + ": ";
     }
 
     static void due(String call, long got, long want) {
         looked++;
         if (got != want) {
             wrong++;
-            if (wrong <= 40) {
-                System.out.println(call + " answered " + got + ", due is " + want);
+            if (wrong <= MOST_TOLD) {
+                System.out.println(test + call + " answered " + got + ", due is " + want);
             }
         }
     }
@@ -42,7 +51,9 @@ final class Check {
     }
 
     static void end() {
-        System.out.println(wrong == 0 ? looked + " answers are as due" : wrong + " of " + looked + " answers are not as due");
+        String many = tests == 0 ? "" : tests + " tests: ";
+        String answers = wrong == 0 ? looked + " answers are as due" : wrong + " of " + looked + " answers are not as due";
+        System.out.println(many + answers);
         if (wrong != 0) {
             System.exit(1);
         }
