@@ -49,6 +49,7 @@ public final class BigOracleTest {
     }
 
     private void check(int round) {
+        Check.test("Promise 23: 3 to 15 on greater graphs, against slower ways");
         make(round);
         if (round % 3 == 0) shared = new GraphEngine();
         GraphEngine x = shared;
@@ -277,6 +278,7 @@ public final class BigOracleTest {
 
     /** Least ways by numbers of arcs: the best with just k arcs, from k - 1. Weights are not negative here. */
     private void checkLeast(GraphEngine x, int g, String name, int s) {
+        Check.test("Promise 11: LEAST on greater graphs, against a slower way");
         long far = 1L << 40;
         long[][] best = new long[n][n];
         long[][] many = new long[n][n];
@@ -322,6 +324,7 @@ public final class BigOracleTest {
 
     /** A copy with other numbers is the same; the numbering that is told makes one of the other. */
     private void checkSame(GraphEngine x, int g, String name) {
+        Check.test("Promise 23: 16, 17 on greater graphs, against a slower way");
         int[] row = new int[n];
         for (int v = 0; v < n; v++) {
             int u = below(v + 1);

@@ -1,7 +1,10 @@
+import java.util.Set;
+import java.util.TreeSet;
+
 /** Counts answers that are not as due; every test class ends with end(). */
 final class Check {
     private static final int MOST_TOLD = 40;
-    private static int tests = 0;
+    private static final Set<String> TESTS = new TreeSet<>();
     private static int looked = 0;
     private static int wrong = 0;
     private static String test = "";
@@ -11,7 +14,7 @@ final class Check {
 
     /** From here on answers belong to the test with this name: a promise and what it says there. */
     static void test(String name) {
-        tests++;
+        TESTS.add(name);
         test = name + ": ";
     }
 
@@ -51,9 +54,8 @@ final class Check {
     }
 
     static void end() {
-        String many = tests == 0 ? "" : tests + " tests: ";
         String answers = wrong == 0 ? looked + " answers are as due" : wrong + " of " + looked + " answers are not as due";
-        System.out.println(many + answers);
+        System.out.println(TESTS.size() + " tests: " + answers);
         if (wrong != 0) {
             System.exit(1);
         }

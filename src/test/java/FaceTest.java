@@ -25,6 +25,7 @@ public final class FaceTest {
     }
 
     private static void face() {
+        Check.test("The public face: what it has, and nothing else");
         Class<?> c = GraphEngine.class;
         Check.due("public and final", c.getModifiers(), Modifier.PUBLIC | Modifier.FINAL);
         Set<String> found = new TreeSet<>();
@@ -59,6 +60,7 @@ public final class FaceTest {
 
     /** Two objects get the same calls: they answer alike, and nothing is thrown. */
     private static void anything(int rounds) {
+        Check.test("No call throws, and the same calls give the same answers");
         Random random = new Random(77L);
         for (int round = 0; round < rounds; round++) {
             GraphEngine x = new GraphEngine();

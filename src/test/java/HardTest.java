@@ -41,6 +41,7 @@ public final class HardTest {
 
     /** The cube of four dimensions, Clebsch's graph, the rook's, Shrikhande's, and rings with chords. */
     private static void wellKnown() {
+        Check.test("Promise 23: 3 to 8, 12, 15 of graphs that are hard to search");
         GraphEngine x = new GraphEngine();
         int[] arcs = {32, 40, 48, 48, 32};
         int[] clique = {2, 2, 4, 3, 2};
@@ -65,6 +66,7 @@ public final class HardTest {
 
     /** The rook's graph and Shrikhande's have all numbers of neighbours in common. */
     private static void alikeButNotSame() {
+        Check.test("Promise 23: 16, 17 of graphs that are alike, but not the same");
         GraphEngine x = new GraphEngine();
         int rook = load(x, 2, 1);
         int other = load(x, 3, 5);
@@ -76,6 +78,7 @@ public final class HardTest {
 
     /** Rings that make up all nodes: the same number of arcs at each, however they are cut. */
     private static void regular() {
+        Check.test("Promise 23: 16 of rings that make up all nodes");
         GraphEngine x = new GraphEngine();
         int[][] lengths = {{16}, {8, 8}, {13, 3}, {4, 4, 4, 4}, {3, 3, 3, 7}, {5, 11}, {6, 10}, {3, 3, 5, 5}};
         int[] handle = new int[lengths.length];
@@ -104,6 +107,7 @@ public final class HardTest {
     }
 
     private static void sameWithManyNumberings() {
+        Check.test("Promise 23: 17 of very many numberings the least");
         GraphEngine x = new GraphEngine();
         x.begin(16, false);
         int empty = x.graph();
@@ -121,6 +125,7 @@ public final class HardTest {
     }
 
     private static void memory() {
+        Check.test("All calls of one run live in one room");
         java.lang.management.ThreadMXBean bean = ManagementFactory.getThreadMXBean();
         if (!(bean instanceof com.sun.management.ThreadMXBean)) {
             return;
@@ -142,7 +147,7 @@ public final class HardTest {
         for (int i = 0; i < 60; i++) x.arc(i % 16, (i * 7 + i / 16 + 1) % 16, i * 13 % 50, i);
         int g = x.graph();
         int c = x.column(g, 0, 0);
-        for (int call = 63; call < 512; call++) {
+        for (int call = 63; call < 511; call++) {
             if (what < 18) {
                 x.ask(g, what, 0, what > 15 ? g : 9);
                 continue;

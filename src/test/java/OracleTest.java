@@ -53,6 +53,8 @@ public final class OracleTest {
         String name = Arrays.deepToString(o.arcs) + " n " + o.n + " " + o.directed + " ";
         checkArcs(x, name + "itself", g, o);
         checkViews(x, name, g, o);
+        x = new GraphEngine();
+        g = load(x, o);
         checkColumns(x, name, g, o);
         x = new GraphEngine();
         g = load(x, o);
@@ -70,6 +72,7 @@ public final class OracleTest {
     }
 
     private static void checkViews(GraphEngine x, String name, int g, Oracle o) {
+        Check.test("Promise 5, 6: views and joins against the oracle");
         for (int kind = 0; kind <= 7; kind++) {
             int number = kind == 4 ? 1 + below((1 << o.n) - 1) : kind == 5 ? below(5) - 1 : 0;
             int v = x.view(g, kind, number);
@@ -91,6 +94,7 @@ public final class OracleTest {
     }
 
     private static void checkColumns(GraphEngine x, String name, int g, Oracle o) {
+        Check.test("Promise 7, 10, 18: columns and programs against the oracle");
         for (int kind = 0; kind <= 6; kind++) {
             int number = below(5);
             checkNumbers(x, name + "column " + kind, x.column(g, kind, number), o.column(kind, number));
@@ -115,6 +119,7 @@ public final class OracleTest {
     }
 
     private static void checkWays(GraphEngine x, String name, int g, Oracle o) {
+        Check.test("Promise 11, 19, 20: ways against the oracle");
         for (int kind = 0; kind <= 2; kind++) {
             int s = below(o.n);
             int w = x.ways(g, kind, s);
@@ -129,6 +134,7 @@ public final class OracleTest {
     }
 
     private static void checkParts(GraphEngine x, String name, int g, Oracle o) {
+        Check.test("Promise 12, 21, 22: parts against the oracle");
         int c = x.column(g, 0, 0);
         for (int kind = 0; kind <= 4; kind++) {
             int p = x.parts(g, kind, c);
@@ -148,6 +154,7 @@ public final class OracleTest {
     }
 
     private static void checkAsked(GraphEngine x, String name, int g, Oracle o) {
+        Check.test("Promise 23: 0 to 15 against the oracle");
         for (int what = 0; what <= 10; what++) {
             int a = below(o.n);
             Check.due(name + "ask " + what + ", " + a, x.ask(g, what, a, 0), o.ask(what, a, 0));
@@ -185,6 +192,7 @@ public final class OracleTest {
         int g = load(x, o);
         checkAsked(x, Arrays.deepToString(o.arcs) + " n " + o.n + " " + o.directed + " ", g, o);
         int h = load(x, other);
+        Check.test("Promise 23: 16, 17 against the oracle");
         String name = Arrays.deepToString(o.arcs) + " as " + Arrays.deepToString(arcs);
         Check.due(name, x.ask(g, 16, 0, h), want == null ? 0 : 1);
         for (int v = 0; v < o.n; v++) Check.due(name + " of " + v, x.ask(g, 17, v, h), want == null ? -1 : want[v]);

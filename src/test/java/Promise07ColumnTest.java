@@ -15,6 +15,7 @@ public final class Promise07ColumnTest {
         coresWithoutLoops();
         coresOfSeveralArcs();
         far();
+        farOverBranches();
         farWhereOneGetsNowhere();
         walksOfNone();
         walks();
@@ -181,6 +182,15 @@ public final class Promise07ColumnTest {
         int ring = Make.ring(x, 16, true);
         Check.fine(x, "round a ring of 16", x.at(x.column(ring, 4, 0), 9), 15);
         Check.fine(x, "each", x.at(x.column(ring, 4, 0), -1), 240);
+    }
+
+    private static void farOverBranches() {
+        Check.test("Promise 7, Terms 3: FAR, over whichever of several nodes leads on");
+        GraphEngine x = new GraphEngine();
+        int g = Make.graph(x, 7, true, a(0, 1), a(0, 2), a(0, 3), a(1, 4), a(2, 5), a(4, 6));
+        Expect.column(x, "the first branch is the longest", x.column(g, 4, 0), 3, 2, 1, 0, 1, 0, 0);
+        int h = Make.graph(x, 5, true, a(0, 3), a(0, 2), a(0, 1), a(1, 4), a(3, 4), a(2, 2));
+        Expect.column(x, "two branches meet", x.column(h, 4, 0), 2, 1, 0, 1, 0);
     }
 
     private static void farWhereOneGetsNowhere() {

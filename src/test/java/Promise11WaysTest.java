@@ -10,6 +10,7 @@ public final class Promise11WaysTest {
         least();
         leastBelowZero();
         endless();
+        endlessOfSeveralRings();
         endlessStart();
         endlessBesideAndBefore();
         ringsOfZero();
@@ -155,6 +156,22 @@ public final class Promise11WaysTest {
         Expect.endless(x, "further behind it", w, 4);
         for (int kind = 1; kind <= 2; kind++) {
             Check.fine(x, "kind " + kind + " has none", x.way(x.ways(g, kind, 0), 2, 0), 1);
+        }
+    }
+
+    private static void endlessOfSeveralRings() {
+        Check.test("Promise 11, Terms 4: ENDLESS by each of several rings");
+        GraphEngine x = new GraphEngine();
+        int g = Make.graph(x, 5, true, a(0, 1, 5), a(1, 1, -1), a(0, 2, 5), a(2, 3, -4), a(3, 2, 3), a(0, 4, 9));
+        int w = x.ways(g, 0, 0);
+        Expect.endless(x, "the first ring", w, 1);
+        Expect.endless(x, "the second ring", w, 2);
+        Expect.endless(x, "the second ring", w, 3);
+        Expect.way(x, "beside both", w, 4, 9, 1, 5);
+        int h = Make.graph(x, 5, true, a(2, 2, -1), a(1, 1, -1), a(0, 2, 5), a(0, 1, 5), a(1, 3, 5), a(2, 4, 5));
+        int u = x.ways(h, 0, 0);
+        for (int v = 1; v < 5; v++) {
+            Expect.endless(x, "behind one ring or the other", u, v);
         }
     }
 

@@ -10,6 +10,7 @@ public final class Promise12PartsTest {
         leastAndGreatest();
         numberedByLeastNodes();
         strong();
+        strongOverBranches();
         strongNotDirected();
         weak();
         bridged();
@@ -155,6 +156,15 @@ public final class Promise12PartsTest {
         Expect.parts(x, "rings", x.parts(g, 0, 0), 0, 1, 0, 1, 2, 1);
         int row = Make.graph(x, 3, true, a(0, 1), a(1, 2), a(0, 2));
         Expect.parts(x, "no way back", x.parts(row, 0, 0), 0, 1, 2);
+    }
+
+    private static void strongOverBranches() {
+        Check.test("Promise 12, Terms 5: STRONG and WEAK, over whichever of several nodes leads on");
+        GraphEngine x = new GraphEngine();
+        int g = Make.graph(x, 6, true, a(0, 1), a(0, 2), a(0, 3), a(1, 4), a(4, 0), a(2, 5));
+        Expect.parts(x, "strong", x.parts(g, 0, 0), 0, 0, 1, 2, 0, 3);
+        Expect.parts(x, "weak", x.parts(g, 1, 0), 0, 0, 0, 0, 0, 0);
+        Expect.parts(x, "reversed, strong", x.parts(x.view(g, 0, 0), 0, 0), 0, 0, 1, 2, 0, 3);
     }
 
     private static void strongNotDirected() {

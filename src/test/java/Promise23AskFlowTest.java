@@ -9,6 +9,8 @@ public final class Promise23AskFlowTest {
         severalArcs();
         flowLoops();
         backFlow();
+        flowGivesWay();
+        flowTurnsRound();
         theMost();
         cut();
         leastCut();
@@ -110,6 +112,27 @@ public final class Promise23AskFlowTest {
         Expect.ask(x, "cut", g, 13, 0, 2, 0b001);
     }
 
+    /** 0 sends to 1 and 2; 1 can go on by 3 or 4, 2 by 3 alone. */
+    private static void flowGivesWay() {
+        Check.test("Promise 23: 12 FLOW, 15 APART, what went first may have to give way");
+        GraphEngine x = new GraphEngine();
+        int[][] rows = {a(0, 1, 1), a(0, 2, 1), a(1, 3, 1), a(1, 4, 1), a(2, 3, 1), a(3, 5, 1), a(4, 5, 1)};
+        for (int k = 0; k < 2; k++) {
+            int g = Make.graph(x, 6, k == 0, rows);
+            Expect.ask(x, "flow", g, 12, 0, 5, 2);
+            Expect.ask(x, "cut", g, 13, 0, 5, 1);
+            Expect.ask(x, "apart", g, 15, 0, 5, 2);
+        }
+    }
+
+    private static void flowTurnsRound() {
+        Check.test("Promise 23: 12 FLOW, not directed: what went one way by an arc, and then more the other way");
+        GraphEngine x = new GraphEngine();
+        int g = Make.graph(x, 6, false, a(0, 1, 1), a(0, 2, 3), a(2, 3, 3), a(1, 3, 1), a(1, 4, 3), a(4, 5, 3), a(3, 5, 1));
+        Expect.ask(x, "flow", g, 12, 0, 5, 3);
+        Expect.ask(x, "cut", g, 13, 0, 5, 0b001101);
+    }
+
     private static void theMost() {
         Check.test("Promise 23: 12 FLOW, 60 arcs of 1000");
         GraphEngine x = new GraphEngine();
@@ -194,6 +217,8 @@ public final class Promise23AskFlowTest {
         GraphEngine x = new GraphEngine();
         int g = Make.graph(x, 4, true, a(0, 1, 1, 1), a(0, 2, 1, 10), a(1, 2, 1, 1), a(1, 3, 1, 10), a(2, 3, 1, 1));
         Expect.ask(x, "22, not 3 and more", g, 14, 0, 3, 22);
+        int h = Make.graph(x, 4, true, a(0, 1, 4, 1), a(0, 2, 2, 10), a(1, 2, 3, 1), a(1, 3, 3, 10), a(2, 3, 4, 1));
+        Expect.ask(x, "more at a time", h, 14, 0, 3, 4 + 20 + 2 + 20 + 4);
     }
 
     private static void priceNotDirected() {

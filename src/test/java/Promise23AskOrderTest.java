@@ -92,6 +92,8 @@ public final class Promise23AskOrderTest {
         Expect.ask(x, "directed", Make.graph(x, 2, true, a(0, 1), a(1, 0), a(1, 1)), 1, 1);
         Expect.ask(x, "not directed", Make.graph(x, 2, false, a(0, 1), a(1, 0), a(0, 0)), 1, 1);
         Expect.ask(x, "one node", Make.graph(x, 1, false, a(0, 0)), 1, 1);
+        Expect.ask(x, "directed, node 0 alone", Make.graph(x, 3, true, a(0, 0), a(0, 1)), 1, 1);
+        Expect.ask(x, "directed, the last node alone", Make.graph(x, 16, true, a(0, 1), a(15, 15)), 1, 1);
     }
 
     private static void ringOfTwo() {
@@ -115,6 +117,11 @@ public final class Promise23AskOrderTest {
         int[][] rows = {a(0, 1), a(1, 2), a(2, 3), a(3, 4), a(4, 0), a(5, 6), a(6, 7), a(7, 8), a(8, 5)};
         Expect.ask(x, "of five and four, directed", Make.graph(x, 9, true, rows), 1, 4);
         Expect.ask(x, "of five and four, not directed", Make.graph(x, 9, false, rows), 1, 4);
+        int[][] turned = {a(0, 1), a(1, 2), a(2, 3), a(3, 0), a(4, 5), a(5, 6), a(6, 7), a(7, 8), a(8, 4), a(8, 9)};
+        Expect.ask(x, "of four and five, and a tail, directed", Make.graph(x, 10, true, turned), 1, 4);
+        Expect.ask(x, "of four and five, and a tail, not directed", Make.graph(x, 10, false, turned), 1, 4);
+        int tail = Make.graph(x, 6, false, a(5, 0), a(0, 1), a(1, 2), a(2, 0), a(2, 3), a(3, 4));
+        Expect.ask(x, "tails before and behind", tail, 1, 3);
         int chord = Make.graph(x, 5, false, a(0, 1), a(1, 2), a(2, 3), a(3, 4), a(4, 0), a(1, 3));
         Expect.ask(x, "a chord", chord, 1, 3);
     }

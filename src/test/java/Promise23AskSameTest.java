@@ -11,6 +11,7 @@ public final class Promise23AskSameTest {
         endsInEitherOrder();
         loops();
         alikeButNotSame();
+        arcsDecide();
         leastGraphs();
         numbering();
         lesserFirst();
@@ -126,6 +127,21 @@ public final class Promise23AskSameTest {
         GraphEngine x = new GraphEngine();
         int three = Make.ring(x, 3, false);
         areSame(x, "rings", Make.ring(x, 6, false), x.join(three, three, false), false);
+    }
+
+    private static void arcsDecide() {
+        Check.test("Promise 23: 16 SAME, each arc between the same two nodes");
+        GraphEngine x = new GraphEngine();
+        int both = Make.graph(x, 3, true, a(0, 1, 0, -1), a(0, 1, 1, 0));
+        areSame(x, "to one node, from one or from two", both, Make.graph(x, 3, true, a(0, 1, 0, -1), a(2, 1, 1, 0)), false);
+        int last = Make.graph(x, 5, true, a(3, 1, 0, -1));
+        int first = Make.graph(x, 5, true, a(4, 0, 0, -1));
+        areSame(x, "an arc among five", last, first, true);
+        numbers(x, "an arc among five", last, first, 1, 0, 2, 4, 3);
+        int weights = Make.graph(x, 2, true, a(0, 1, 3, 1), a(1, 0, 4, 1), a(1, 1, 9, 9));
+        areSame(x, "weights of there and back", weights, Make.graph(x, 2, true, a(0, 1, 4, 1), a(1, 0, 3, 1), a(1, 1, 9, 9)), false);
+        areSame(x, "there twice", Make.graph(x, 2, true, a(0, 1, 3, 1), a(0, 1, 3, 1), a(1, 0, 4, 1), a(0, 0, 9, 9)),
+                Make.graph(x, 2, true, a(0, 1, 3, 1), a(1, 0, 4, 1), a(0, 1, 2, 1), a(0, 0, 9, 9)), false);
     }
 
     private static void leastGraphs() {

@@ -7,6 +7,8 @@ public final class Promise23AskTreesTest {
         treesCountEachArc();
         treesWithoutLoops();
         treesModulo();
+        treesWhoseNumberIsTheModulus();
+        treesOverWhatIsTheModulus();
         lightOfNothing();
         lightOfWhatIsApart();
         lightBelowZero();
@@ -78,6 +80,40 @@ public final class Promise23AskTreesTest {
         Expect.ask(x, "4 to the 15: 1073741824", x.graph(), 9, 1073741824L - 1000000007L);
     }
 
+    /** Nodes 0 .. 12 in a row, each with so many arcs to a node that stands for all others. */
+    private static final int[] SPOKES = {2, 5, 3, 4, 4, 3, 2, 6, 2, 5, 2, 2, 5};
+
+    private static void row(GraphEngine x, int nodes) {
+        x.begin(nodes, false);
+        for (int v = 0; v < 12; v++) x.arc(v, v + 1, 0, 0);
+    }
+
+    private static void treesWhoseNumberIsTheModulus() {
+        Check.test("Promise 23: 9 TREES, 0 where there are just 1000000007");
+        GraphEngine x = new GraphEngine();
+        row(x, 14);
+        for (int v = 0; v < 13; v++) {
+            for (int k = 0; k < SPOKES[v]; k++) x.arc(v, 13, 0, 0);
+        }
+        Expect.ask(x, "1000000007 trees", x.graph(), 9, 0);
+        row(x, 14);
+        for (int v = 0; v < 13; v++) {
+            for (int k = v == 12 ? 1 : 0; k < SPOKES[v]; k++) x.arc(v, 13, 0, 0);
+        }
+        Expect.ask(x, "an arc less: 825560517", x.graph(), 9, 825560517L);
+    }
+
+    /** The first 13 nodes alone tell 0 modulo 1000000007, though all of them do not. */
+    private static void treesOverWhatIsTheModulus() {
+        Check.test("Promise 23: 9 TREES, modulo 1000000007, over a part that is 0");
+        GraphEngine x = new GraphEngine();
+        row(x, 15);
+        for (int v = 0; v < 13; v++) {
+            for (int k = 0; k < SPOKES[v]; k++) x.arc(v, 13 + k % 2, 0, 0);
+        }
+        Expect.ask(x, "11003091012 trees", x.graph(), 9, 11003091012L - 11 * 1000000007L);
+    }
+
     private static void lightOfNothing() {
         Check.test("Promise 23: 10 LIGHT, 0 without arcs");
         GraphEngine x = new GraphEngine();
@@ -118,6 +154,9 @@ public final class Promise23AskTreesTest {
         int g = Make.graph(x, 3, true, a(1, 0, 4), a(1, 2, 5), a(0, 2, 6), a(0, 1, 3));
         Expect.ask(x, "directed", g, 10, 8);
         amongAre(x, "directed", g, 0, 1, 0, 1);
+        int back = Make.graph(x, 3, true, a(1, 0, 1), a(0, 1, 2), a(2, 0, 3), a(1, 2, 4));
+        Expect.ask(x, "all to node 0", back, 10, 4);
+        amongAre(x, "all to node 0", back, 1, 0, 1, 0);
     }
 
     private static void among() {
