@@ -14,6 +14,7 @@ public final class Promise23AskRefusedTest {
         yDoesNotCount();
         handlesFirst();
         changesNothing();
+        smallBehindGreat();
         full();
         Check.end();
     }
@@ -191,6 +192,24 @@ public final class Promise23AskRefusedTest {
             Check.due("what " + what + " again", x.ask(g, what, 1, y), first);
         }
         Expect.graph(x, "the graph", g, 5, true, rows);
+    }
+
+    private static void smallBehindGreat() {
+        Check.test("Promise 23: what is asked of a great graph leaves nothing for a small one");
+        GraphEngine x = new GraphEngine();
+        x.begin(16, false);
+        for (int i = 0; i < 60; i++) x.arc(i % 16, (i * 7 + i / 16 + 1) % 16, i * 13 % 50 + 1, i);
+        int great = x.graph();
+        int[][] rows = {a(0, 1, 3, 2), a(1, 2, 4, 1), a(2, 0, 5, 0), a(2, 3, 6, 9)};
+        int small = Make.graph(x, 4, false, rows);
+        int other = Make.graph(x, 4, false, a(3, 2, 3, 2), a(2, 1, 4, 1), a(1, 3, 5, 0), a(1, 0, 6, 9));
+        long[] want = {-1, 3, -1, 0b0111, 0b1001, 3, 2, 2, 0, 3, 13, 1, 6, 0b0111, 6 * 9 + 3, 1, 1, 2};
+        for (int what = 0; what <= 17; what++) {
+            boolean flow = what >= 12 && what <= 15;
+            int from = flow ? 0 : 1;
+            x.ask(great, what, 9, what > 15 ? great : 4);
+            Expect.ask(x, "behind a great one", small, what, from, what > 15 ? other : 3, want[what]);
+        }
     }
 
     private static void full() {
