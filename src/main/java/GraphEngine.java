@@ -1972,6 +1972,8 @@ public final class GraphEngine {
         private static final int ROUNDS = MOST_ARCS * MOST_WEIGHT + 1;
         private static final int MOST_LINKS = MOST_ARCS * 4;
         private static final long FAR_OFF = 1L << 40;
+        /** More than all arcs together can carry. */
+        private static final int NO_LIMIT = 1 << 30;
 
         /** How much more can go from a node to a node. */
         private final int[] room;
@@ -2036,7 +2038,7 @@ public final class GraphEngine {
         }
 
         private int push(int x, int y) {
-            int amount = Integer.MAX_VALUE;
+            int amount = NO_LIMIT;
             int v = y;
             for (int i = 0; i < MOST_NODES && v != x; i++) {
                 amount = Math.min(amount, room[before[v] * MOST_NODES + v]);
@@ -2099,7 +2101,7 @@ public final class GraphEngine {
         }
 
         private long pushLinks(int x, int y) {
-            int amount = Integer.MAX_VALUE;
+            int amount = NO_LIMIT;
             int v = y;
             for (int i = 0; i < MOST_NODES && v != x; i++) {
                 amount = Math.min(amount, linkRoom[before[v]]);
@@ -2125,8 +2127,6 @@ public final class GraphEngine {
         private static final int BOTH = 2 * MOST_NODES;
         private static final long ODD = 0x9E3779B97F4A7C15L;
 
-        private Graph one;
-        private Graph two;
         /** What is between two nodes of the first, then of the second graph; 0 if there is nothing. */
         private final long[] ties;
         /** For each depth the colours of the nodes of the first, then of the second graph. */
@@ -2149,13 +2149,11 @@ public final class GraphEngine {
             if (a.nodes != b.nodes || a.directed != b.directed || a.arcs != b.arcs) {
                 return false;
             }
-            one = a;
-            two = b;
             Arrays.fill(ties, 0L);
             fillTies(a, 0);
             fillTies(b, MOST_NODES * MOST_NODES);
             startColours(a.nodes);
-            return refine(0) && canNumber(0, 0);
+            return refine(a.nodes, 0) && canNumber(a, b, 0, 0);
         }
 
         private static long scramble(long x) {
@@ -2186,8 +2184,7 @@ public final class GraphEngine {
         }
 
         /** Colours by the colours around until they divide no more; whether both graphs have the same ones. */
-        private boolean refine(int depth) {
-            int n = one.nodes;
+        private boolean refine(int n, int depth) {
             int row = depth * BOTH;
             int before = 0;
             int now = countColours(row, n);
@@ -2249,10 +2246,10 @@ public final class GraphEngine {
         }
 
         /** Nodes by their order get the least number that lets the others find theirs. */
-        private boolean canNumber(int v, int depth) {
-            int n = one.nodes;
+        private boolean canNumber(Graph a, Graph b, int v, int depth) {
+            int n = a.nodes;
             if (v >= n) {
-                return haveSameArcs();
+                return haveSameArcs(a, b);
             }
             int row = depth * BOTH;
             long colour = colours[row + v];
@@ -2266,9 +2263,9 @@ public final class GraphEngine {
                 tried |= 1 << u;
                 numbering[v] = u;
                 if (alone) {
-                    return canNumber(v + 1, depth);
+                    return canNumber(a, b, v + 1, depth);
                 }
-                if (depth < MOST_NODES && markPair(v, u, depth) && canNumber(v + 1, depth + 1)) {
+                if (depth < MOST_NODES && markPair(n, v, u, depth) && canNumber(a, b, v + 1, depth + 1)) {
                     return true;
                 }
             }
@@ -2276,26 +2273,26 @@ public final class GraphEngine {
         }
 
         /** Gives a node and the one that it stands for a colour of their own, one row deeper. */
-        private boolean markPair(int v, int u, int depth) {
+        private boolean markPair(int n, int v, int u, int depth) {
             int row = depth * BOTH;
             System.arraycopy(colours, row, colours, row + BOTH, BOTH);
             long own = scramble(colours[row + v] + v + 1);
             colours[row + BOTH + v] = own;
             colours[row + BOTH + MOST_NODES + u] = own;
-            return refine(depth + 1);
+            return refine(n, depth + 1);
         }
 
-        private boolean haveSameArcs() {
+        private boolean haveSameArcs(Graph a, Graph b) {
             int numbers = 0;
-            for (int v = 0; v < one.nodes; v++) {
+            for (int v = 0; v < a.nodes; v++) {
                 numbers |= 1 << numbering[v];
             }
-            if (numbers != one.allNodes()) {
+            if (numbers != a.allNodes()) {
                 return false;
             }
             long used = 0;
-            for (int i = 0; i < one.arcs; i++) {
-                int j = sameArc(i, used);
+            for (int i = 0; i < a.arcs; i++) {
+                int j = sameArc(a, b, i, used);
                 if (j < 0) {
                     return false;
                 }
@@ -2304,13 +2301,14 @@ public final class GraphEngine {
             return true;
         }
 
-        private int sameArc(int i, long used) {
-            int a = numbering[one.from[i]];
-            int b = numbering[one.to[i]];
-            for (int j = 0; j < two.arcs; j++) {
-                boolean along = two.from[j] == a && two.to[j] == b;
-                boolean against = !two.directed && two.from[j] == b && two.to[j] == a;
-                boolean equal = two.weight[j] == one.weight[i] && two.cost[j] == one.cost[i];
+        /** The first arc of the second graph, but for those used, that arc i of the first becomes; or -1. */
+        private int sameArc(Graph a, Graph b, int i, long used) {
+            int tail = numbering[a.from[i]];
+            int head = numbering[a.to[i]];
+            for (int j = 0; j < b.arcs; j++) {
+                boolean along = b.from[j] == tail && b.to[j] == head;
+                boolean against = !b.directed && b.from[j] == head && b.to[j] == tail;
+                boolean equal = b.weight[j] == a.weight[i] && b.cost[j] == a.cost[i];
                 if ((used >> j & 1L) == 0 && equal && (along || against)) {
                     return j;
                 }

@@ -1,7 +1,11 @@
 import java.io.IOException;
+import java.lang.reflect.Method;
+import java.lang.reflect.Modifier;
 import java.nio.file.Files;
 import java.nio.file.Path;
 import java.util.List;
+import java.util.Set;
+import java.util.TreeSet;
 import java.util.regex.Matcher;
 import java.util.regex.Pattern;
 
@@ -12,7 +16,7 @@ public final class LanguageTest {
     private static final int MOST_PARAMETERS = 7;
     private static final int MOST_CLASSES = 12;
     /** Calls of the library that rule 4 lists and the program needs. */
-    private static final String LIBRARY = "Math\\.(min|max)|Integer\\.(bitCount|MAX_VALUE)|System\\.arraycopy|Arrays\\.(fill|copyOf)";
+    private static final String LIBRARY = "Math\\.(min|max)|Integer\\.bitCount|System\\.arraycopy|Arrays\\.(fill|copyOf)";
 
     public static void main(String[] args) throws IOException {
         List<String> lines = Files.readAllLines(SOURCE);
@@ -20,6 +24,8 @@ public final class LanguageTest {
         words(code);
         library(code);
         classes(code);
+        names(code);
+        nullFields(code);
         staticFields(code);
         methods(code.split("\n"));
         Check.end();
@@ -60,6 +66,24 @@ public final class LanguageTest {
         Check.due("twelve at most", count(code, "\\bclass\\b") <= MOST_CLASSES, true);
         Check.due("all but the first are private and static", count(code, "private (abstract )?static (final )?class\\b"),
                 count(code, "\\bclass\\b") - 1);
+    }
+
+    private static void names(String code) {
+        Check.test("Language, rule 1: no private method bears the name of a public one");
+        Set<String> face = new TreeSet<>();
+        for (Method m : GraphEngine.class.getDeclaredMethods()) {
+            if (Modifier.isPublic(m.getModifiers())) face.add(m.getName());
+        }
+        Check.due("public names", face.size(), 22);
+        for (String name : face) {
+            Check.due("private " + name, count(code, "\\bprivate (static )?[\\w\\[\\]]+ " + name + "\\("), 0);
+        }
+    }
+
+    private static void nullFields(String code) {
+        Check.test("Language, rule 7: no field that holds a reference can be null, for all of them are final");
+        Check.due("fields that change", count(code, "(?m)^ +(private )?(?!abstract|final|static|return)[A-Z]\\w*(\\[\\])? \\w+;"), 0);
+        Check.due("rows that change", count(code, "(?m)^ +(private )?(int|long|boolean)\\[\\] \\w+;"), 0);
     }
 
     private static void staticFields(String code) {
